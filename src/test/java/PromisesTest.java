@@ -531,6 +531,7 @@ public final class PromisesTest {
         due("total after learn", x.total(), 15 * 6 * 4 + 15 * 3 * 5 + 24 * 9 * 5);
         dueDrawn(x, 1, 1);
         learnOfHalves();
+        due("learn() of a new object", new WeightedTrellis().learn(), 27);
         WeightedTrellis great = heaviest();
         due("learn at the greatest", great.learn(), 3 * 3 + 9 * 3 + 3 * 9);
     }
