@@ -4,7 +4,7 @@ import java.util.Arrays;
  * Hidden states behind seen symbols, weighed in exact whole numbers and fractions.
  *
  * Every call that changes weights or symbols reckons the sums and ranks anew, so that all other
- * calls only read and nothing can be out of date. All rows are made once, in the constructor.
+ * calls only read these and nothing can be out of date. All rows are made once, in the constructor.
  * No sum leaves a long: a way weighs at most 9^12 and there are at most 3^6 ways.
  */
 public final class WeightedTrellis {
