@@ -1,78 +1,6 @@
 /** Each promise of the document by itself: ordinary inputs, the edges it names, and wrong inputs. */
-public final class PromisesTest {
-    private static final int NONE = WeightedTrellis.NONE;
-    private static final int BEGIN = WeightedTrellis.BEGIN;
-    private static final int STEP = WeightedTrellis.STEP;
-    private static final int SHOW = WeightedTrellis.SHOW;
+public final class PromisesTest extends Trial {
     private static final int[] WILD = {Integer.MIN_VALUE, -2, -1, 7, 12, 1 << 30, Integer.MAX_VALUE};
-
-    private static int wrong = 0;
-
-    private static void due(String what, long got, long want) {
-        if (got != want) {
-            wrong++;
-            System.out.println(what + " answered " + got + ", due is " + want);
-        }
-    }
-
-    private static void due(String what, boolean got, boolean want) {
-        due(what, got ? 1L : 0L, want ? 1L : 0L);
-    }
-
-    private static void dueFraction(String what, long top, long bottom, long wantTop, long wantBottom) {
-        due(what + " part 0", top, wantTop);
-        due(what + " part 1", bottom, wantBottom);
-    }
-
-    private static void dueShare(WeightedTrellis x, int kind, int row, int column, long top, long bottom) {
-        dueFraction("share(" + kind + ", " + row + ", " + column + ")",
-                x.share(kind, row, column, 0), x.share(kind, row, column, 1), top, bottom);
-    }
-
-    private static void dueLearned(WeightedTrellis x, int kind, int row, int column, long top, long bottom) {
-        dueFraction("learned(" + kind + ", " + row + ", " + column + ")",
-                x.learned(kind, row, column, 0), x.learned(kind, row, column, 1), top, bottom);
-    }
-
-    private static void dueRanked(WeightedTrellis x, int i, long weight, int... way) {
-        due("ranked(" + i + ")", x.ranked(i), weight);
-        for (int p = 0; p < way.length; p++) {
-            due("stateOf(" + i + ", " + p + ")", x.stateOf(i, p), way[p]);
-        }
-    }
-
-    private static void dueDrawn(WeightedTrellis x, int... way) {
-        for (int p = 0; p < way.length; p++) {
-            due("drawn(" + p + ")", x.drawn(p), way[p]);
-        }
-        due("drawn behind the end", x.drawn(way.length), NONE);
-    }
-
-    /** The rows are begin, the steps from each state, and the shows in each state. */
-    private static void setAll(WeightedTrellis x, int states, int symbols, int[][] rows) {
-        due("size", x.size(states, symbols), true);
-        for (int s = 0; s < states; s++) {
-            due("weigh begin", x.weigh(BEGIN, 0, s, rows[0][s]), true);
-            for (int t = 0; t < states; t++) {
-                due("weigh step", x.weigh(STEP, s, t, rows[1 + s][t]), true);
-            }
-            for (int k = 0; k < symbols; k++) {
-                due("weigh show", x.weigh(SHOW, s, k, rows[1 + states + s][k]), true);
-            }
-        }
-    }
-
-    /**
-     * Two states, two symbols, symbols 0 and 1 seen. The ways weigh:
-     * 00: 2*3*1*4 = 24, 01: 2*3*2*1 = 12, 10: 5*2*0*4 = 0, 11: 5*2*6*1 = 60.
-     */
-    private static WeightedTrellis small() {
-        WeightedTrellis x = new WeightedTrellis();
-        setAll(x, 2, 2, new int[][] {{2, 5}, {1, 2}, {0, 6}, {3, 4}, {2, 1}});
-        x.see(0);
-        x.see(1);
-        return x;
-    }
 
     private static void dueSmall(String after, WeightedTrellis x) {
         int[][] rows = {{2, 5}, {1, 2}, {0, 6}, {3, 4}, {2, 1}};
@@ -86,16 +14,6 @@ public final class PromisesTest {
         }
         due(after + ": seen", x.seen(), 2);
         due(after + ": total", x.total(), 96);
-    }
-
-    private static WeightedTrellis heaviest() {
-        WeightedTrellis x = new WeightedTrellis();
-        int[] nines = {9, 9, 9, 9};
-        setAll(x, 3, 4, new int[][] {nines, nines, nines, nines, nines, nines, nines});
-        for (int i = 0; i < 6; i++) {
-            x.see(3);
-        }
-        return x;
     }
 
     private static void constants() {
@@ -197,7 +115,7 @@ public final class PromisesTest {
     private static void promise4Weight() {
         WeightedTrellis x = new WeightedTrellis();
         int[][] rows = {{1, 2, 3}, {4, 5, 6}, {7, 8, 9}, {0, 1, 2}, {3, 4, 5, 6}, {7, 8, 9, 0}, {2, 4, 6, 8}};
-        setAll(x, 3, 4, rows);
+        setAll(x, 4, rows);
         for (int s = 0; s < 3; s++) {
             due("begin", x.weight(BEGIN, 0, s), rows[0][s]);
             due("no begin row", x.weight(BEGIN, 1 + s, 0), NONE);
@@ -372,7 +290,7 @@ public final class PromisesTest {
     /** Later ways are heavier here, so each one pushes the lightest out of the twelve. */
     private static void rankAtTheLimit() {
         WeightedTrellis x = new WeightedTrellis();
-        setAll(x, 3, 1, new int[][] {{1, 2, 3}, {1, 1, 1}, {1, 1, 1}, {1, 1, 1}, {1}, {2}, {4}});
+        setAll(x, 1, new int[][] {{1, 2, 3}, {1, 1, 1}, {1, 1, 1}, {1, 1, 1}, {1}, {2}, {4}});
         x.see(0);
         x.see(0);
         x.see(0);
@@ -628,9 +546,6 @@ public final class PromisesTest {
         promise17Learn();
         promise18Draw();
         promise19Drawn();
-        System.out.println(wrong == 0 ? "all answers are as due" : wrong + " answers are not as due");
-        if (wrong != 0) {
-            System.exit(1);
-        }
+        close();
     }
 }
