@@ -193,6 +193,7 @@ public final class WeightedTrellis {
         for (int p = 0; p < seenCount; p++) {
             int to = 0;
             long units = weight * entry(p, from, to) * sumsBehind[cell(p, to)];
+            // What is left when only the last state remains falls to it, as u is below the total.
             while (to < stateCount - 1 && rest >= units) {
                 rest -= units;
                 to++;
